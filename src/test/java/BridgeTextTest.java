@@ -7,6 +7,8 @@ public final class BridgeTextTest {
         appending();
         lengths();
         parseReplaces();
+        parseClears();
+        nothingIsLeftOfTexts();
         failedParseChangesNothing();
         defaults();
         rightTexts();
@@ -103,6 +105,54 @@ public final class BridgeTextTest {
         CHECK.due("saveSnapshot(0)", x.saveSnapshot(0), false);
     }
 
+    private static void parseClears() {
+        BusBridge x = Check.bridge("credit 1 0 1; latency 1 50; table 0 1 1; credit 1 1 0;");
+        x.read(0, 0, 1, false);
+        x.post(0, 0, 1, 1, false);
+        x.post(0, 0, 1, 2, false);
+        x.run(2);
+        CHECK.due("passings(0)", x.passings(0), 1);
+        CHECK.due("waiting(0)", x.waiting(0), 2);
+        CHECK.due("held(1, 0)", x.held(1, 0), 1);
+        CHECK.due("parse(0)", x.parse(0), 0);
+        CHECK.due("waiting(0)", x.waiting(0), 0);
+        CHECK.due("held(1, 0)", x.held(1, 0), 0);
+        CHECK.due("passings(0)", x.passings(0), 0);
+        CHECK.due("tagState(0, 0)", x.tagState(0, 0), 0);
+        CHECK.dueDouble("utilisation(0)", x.utilisation(0), 0.0);
+        for (int i = 1; i <= 4; i++) {
+            CHECK.due("all the room is free", x.post(0, 0, 1, 1, false), i);
+        }
+        x.run(1);
+        CHECK.dueDouble("averageWait(0)", x.averageWait(0), 1.0);
+        CHECK.due("all credits are free", x.run(1), 1);
+    }
+
+    private static void nothingIsLeftOfTexts() {
+        String all = "buffer 0 0 1; credit 1 0 1; table 0 0 1; table 1 1 0; word 1 0 9; latency 1 20; latency 0 tick+30; tags 1; split 1;";
+        BusBridge x = new BusBridge();
+        for (int i = 0; i < 3; i++) {
+            CHECK.due("parse", Check.parse(x, all), 0);
+            CHECK.due("parse of a text that fails", Check.parse(x, all + "latency 0 (((((1+2*"), 1);
+            CHECK.due("parse again", Check.parse(x, all + "latency 1 (((((7)))));"), 0);
+            x.post(0, 0, 1, 5, false);
+            CHECK.due("the latency is 7", x.ticksToRest(), 9);
+        }
+        for (int i = 0; i < 2; i++) {
+            CHECK.due("parse(0)", x.parse(0), 0);
+            CHECK.due("mayPass(0, 0)", x.mayPass(0, 0, false), false);
+            CHECK.due("mayPass(1, 1)", x.mayPass(1, 1, false), true);
+            CHECK.due("word(1, 0)", x.word(1, 0), 0);
+            CHECK.due("tagState(1, 3)", x.tagState(1, 3), 0);
+            x.post(0, 0, 1, 5, false);
+            CHECK.due("the latency is 1", x.ticksToRest(), 3);
+            CHECK.due("the buffer has the size 4", x.post(0, 0, 1, 5, false), 2);
+            x.run(9);
+            x.read(0, 0, 2, false);
+            CHECK.due("split is 2, the other latency is 1", x.ticksToRest(), 5);
+        }
+    }
+
     private static void failedParseChangesNothing() {
         BusBridge x = Check.bridge("word 0 3 7; tags 2; latency 1 3; split 1; table 1 1 0;");
         x.read(0, 0, 2, false);
@@ -177,6 +227,7 @@ public final class BridgeTextTest {
         wrong("tags 2; 3;", 1, 8);
         wrong("tag 2;", 1, 0);
         wrong("tagss 2;", 1, 0);
+        wrong("xags 2;", 1, 0);
         wrong("Tags 2;", 1, 0);
         wrong("tAgs 2;", 1, 0);
         wrong("tagS 2;", 1, 0);

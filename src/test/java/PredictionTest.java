@@ -9,6 +9,7 @@ public final class PredictionTest {
         stuck();
         heldForEver();
         limitOfRest();
+        moveAfterTheLimit();
         limitOfCompletion();
         nothingChanges();
         nearTheLastTick();
@@ -117,6 +118,29 @@ public final class PredictionTest {
         CHECK.due("completeTick(0, 0) in 114", y.completeTick(0, 0), 614);
         y.run(1);
         expect(y, 499, false);
+    }
+
+    private static void moveAfterTheLimit() {
+        BusBridge x = Check.bridge("buffer 0 0 8; credit 1 0 1; credit 1 2 1; latency 1 50; latency 0 50;");
+        for (int i = 0; i < 8; i++) {
+            x.post(0, 0, 1, i, false);
+        }
+        for (int i = 0; i < 3; i++) {
+            x.configure(0, 0, 1, false);
+        }
+        // The last write is accepted in 358; the configuration writes are accepted in 359, 410 and
+        // 461, the last one is worked on in 512, and its completion in 563.
+        expect(x, -1, false);
+        x.run(12);
+        // Something moves after 500 ticks, then nothing for the longest pause, then something again.
+        expect(x, -1, false);
+        CHECK.due("completeTick(0, 1)", x.completeTick(0, 1), 512);
+        CHECK.due("completeTick(0, 2)", x.completeTick(0, 2), -1);
+        x.run(50);
+        expect(x, -1, false);
+        x.run(1);
+        expect(x, 500, false);
+        CHECK.due("completeTick(0, 2)", x.completeTick(0, 2), 563);
     }
 
     private static void limitOfCompletion() {

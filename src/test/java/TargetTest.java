@@ -86,8 +86,8 @@ public final class TargetTest {
         latency("20+7%(0-4)", 23);
         latency("address+words*10+kind", 25);
         latency("tick", 1);
-        latency("(0-9999)*9999*9999", (int) Math.max(0, Math.min(50, -9999 * 9999 * 9999)));
-        latency("9999*9999*30", (int) Math.max(0, Math.min(50, 9999 * 9999 * 30)));
+        latency("(0-9999)*9999*9999", Math.max(0, Math.min(50, -9999 * 9999 * 9999)));
+        latency("9999*9999*30", Math.max(0, Math.min(50, 9999 * 9999 * 30)));
         // The smallest int: 65536 * 32768 wraps to it; divided by -1 it stays.
         latency("(256*256*(256*128))/(0-1)/(256*256*64*0-1)+5", 0);
         latency("256*256*(256*128)%(0-1)+5", 5);

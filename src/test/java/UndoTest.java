@@ -4,6 +4,7 @@ public final class UndoTest {
 
     public static void main(String[] args) {
         undoEachChange();
+        undoOfDataAndPassings();
         tenChanges();
         undoAndGoOn();
         snapshots();
@@ -47,6 +48,38 @@ public final class UndoTest {
         CHECK.due("tagState(0, 0)", x.tagState(0, 0), 0);
         CHECK.due("undo()", x.undo(), -1);
         CHECK.due("undo()", x.undo(), -1);
+    }
+
+    private static void undoOfDataAndPassings() {
+        BusBridge x = Check.bridge("word 1 0 5; word 1 1 6; word 1 14 7; word 1 15 8; credit 1 2 0; tags 8;");
+        for (int tag = 0; tag < 7; tag++) {
+            x.configure(1, 0, 0, false);
+            x.run(9);
+        }
+        x.configure(0, 0, 0, false);
+        x.read(0, 0, 2, false);
+        // The configuration write stays, and is passed by the read and by a completion.
+        CHECK.due("read from side 1 with the last tag", x.read(1, 0, 1, false), 7);
+        x.run(9);
+        CHECK.due("passings(0)", x.passings(0), 2);
+        x.saveSnapshot(0);
+        x.release(0, 1);
+        x.read(0, 14, 2, false);
+        x.run(9);
+        CHECK.due("passings(0)", x.passings(0), 3);
+        CHECK.due("data(0, 1, 1)", x.data(0, 1, 1), 8);
+        for (int i = 0; i < 3; i++) {
+            x.undo();
+        }
+        CHECK.due("passings(0)", x.passings(0), 2);
+        CHECK.due("data(0, 1, 0)", x.data(0, 1, 0), 5);
+        CHECK.due("data(0, 1, 1)", x.data(0, 1, 1), 6);
+        x.release(0, 1);
+        x.read(0, 14, 2, false);
+        x.run(9);
+        x.restoreSnapshot(0);
+        CHECK.due("passings(0)", x.passings(0), 2);
+        CHECK.due("data(0, 1, 1)", x.data(0, 1, 1), 6);
     }
 
     private static void tenChanges() {
