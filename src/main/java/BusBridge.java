@@ -269,20 +269,17 @@ public final class BusBridge {
         // The bridge rests after the last tick that moves something; what is accepted in a tick is
         // worked on at most so many ticks later, so a longer pause never ends.
         int longestPause = MOST_LATENCY + 1;
-        int last = 0;
+        int ticks = 0;
+        int rest = 0;
         forecast.copyFrom(situation);
-        for (int n = 1; n <= LONGEST_PREDICTION + longestPause && n - last <= longestPause; n++) {
-            if (forecast.isEmpty()) {
-                return last;
-            }
-            if (forecast.advance(plan)) {
-                last = n;
-            }
-            if (last > LONGEST_PREDICTION) {
-                return NONE;
+        int mostTicks = LONGEST_PREDICTION + longestPause;
+        for (int i = 0; i < mostTicks && rest <= LONGEST_PREDICTION && ticks - rest < longestPause; i++) {
+            ticks += forecast.advance(plan, longestPause);
+            if (forecast.moved) {
+                rest = ticks;
             }
         }
-        return last;
+        return rest <= LONGEST_PREDICTION ? rest : NONE;
     }
 
     public boolean isStuck() {
@@ -294,8 +291,9 @@ public final class BusBridge {
         checkTag(side, tag);
         Tags tags = forecast.portOf(side).tags;
         forecast.copyFrom(situation);
-        for (int n = 0; n < LONGEST_PREDICTION && tags.stateOf(tag) == PENDING; n++) {
-            forecast.advance(plan);
+        int ticks = 0;
+        for (int i = 0; i < LONGEST_PREDICTION && ticks < LONGEST_PREDICTION && tags.stateOf(tag) == PENDING; i++) {
+            ticks += forecast.advance(plan, LONGEST_PREDICTION - ticks);
         }
         return tags.stateOf(tag) == COMPLETE ? forecast.now : NONE;
     }
@@ -311,8 +309,9 @@ public final class BusBridge {
         }
         history.remember(situation);
         int before = situation.forwardedInAll();
-        for (int i = 0; i < ticks; i++) {
-            situation.advance(plan);
+        int done = 0;
+        for (int i = 0; i < ticks && done < ticks; i++) {
+            done += situation.advance(plan, ticks - done);
         }
         return situation.forwardedInAll() - before;
     }
@@ -1121,6 +1120,18 @@ public final class BusBridge {
             return work.size != workBefore || queue.size != queueBefore;
         }
 
+        /** The first later tick from which a transaction is worked on; a far one if there is none. */
+        int firstDueAfter(int now) {
+            int first = Integer.MAX_VALUE;
+            for (int position = 0; position < work.size; position++) {
+                int due = work.get(position, Line.TIME);
+                if (due > now) {
+                    first = Math.min(first, due);
+                }
+            }
+            return first;
+        }
+
         /** Works on a transaction that the target holds; returns whether it is done. */
         private boolean finishes(int position, int now, int room, int split) {
             switch (work.get(position, Line.KIND)) {
@@ -1206,6 +1217,8 @@ public final class BusBridge {
     /** Everything that changes can change. */
     private static final class Situation {
         int now;
+        /** Whether the latest tick changed anything but its number. */
+        boolean moved;
         private final Port port0 = new Port();
         private final Port port1 = new Port();
 
@@ -1233,14 +1246,24 @@ public final class BusBridge {
             return port0.forwardedCount + port1.forwardedCount;
         }
 
-        /** Does a tick; returns whether it changed anything but its number. */
-        boolean advance(Plan plan) {
+        /**
+         * Does one tick, or, if nothing moves in it, as many as nothing moves in, but at most some;
+         * returns how many. What does not move in a tick stays so until another transaction is due.
+         */
+        int advance(Plan plan, int most) {
             now++;
             boolean worked0 = port0.workInTick(now, plan.sizeOf(0, COMPLETION), plan.split);
             boolean worked1 = port1.workInTick(now, plan.sizeOf(1, COMPLETION), plan.split);
             boolean forwarded0 = forwardFrom(plan, 0);
             boolean forwarded1 = forwardFrom(plan, 1);
-            return worked0 || worked1 || forwarded0 || forwarded1;
+            moved = worked0 || worked1 || forwarded0 || forwarded1;
+            int idle = moved ? 0 : Math.max(0, Math.min(most - 1, firstDue() - 1 - now));
+            now += idle;
+            return 1 + idle;
+        }
+
+        private int firstDue() {
+            return Math.min(port0.firstDueAfter(now), port1.firstDueAfter(now));
         }
 
         private boolean forwardFrom(Plan plan, int side) {
