@@ -1,5 +1,5 @@
 /** What the tests share: it counts wrong answers and ends a test with exit code 1 if there was one. */
-final class Check {
+class Check {
     interface Call {
         void make();
     }
@@ -36,8 +36,16 @@ final class Check {
     void dueText(String call, String got, String due) {
         made++;
         if (!got.equals(due)) {
-            report(call, got, due);
+            reportFirstDifference(call, got.split("\n"), due.split("\n"));
         }
+    }
+
+    private void reportFirstDifference(String call, String[] got, String[] due) {
+        int line = 0;
+        while (line < got.length - 1 && line < due.length - 1 && got[line].equals(due[line])) {
+            line++;
+        }
+        report(call, got[line], due[line]);
     }
 
     void outOfBounds(String call, Call made) {
@@ -52,7 +60,7 @@ final class Check {
         dueThrow(call, made, IllegalStateException.class);
     }
 
-    private void dueThrow(String call, Call body, Class<?> due) {
+    void dueThrow(String call, Call body, Class<?> due) {
         made++;
         String got = "nothing";
         try {
@@ -69,8 +77,13 @@ final class Check {
     private void report(String call, String got, String due) {
         wrong++;
         if (wrong <= 50) {
-            System.out.println(test + ": " + call + " answered " + got + ", due is " + due);
+            System.out.println(test + ": " + heading() + call + " answered " + got + ", due is " + due);
         }
+    }
+
+    /** What a report says before the call. */
+    String heading() {
+        return "";
     }
 
     int wrongCount() {
