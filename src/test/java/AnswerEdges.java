@@ -205,10 +205,14 @@ final class AnswerEdges {
             empty.run(1);
             e.outOfBounds(name + "(side, 0) when it has gone on", () -> call.ask(empty, side, 0));
         }
-        BusBridge x = fullBridge(0);
+        // A position that both sides have does not make a side.
+        BusBridge both = new BusBridge();
+        both.post(0, 0, 1, 1, false);
+        both.post(1, 0, 1, 1, false);
         for (int side : NO_SIDES) {
-            e.outOfBounds(name + "(" + side + ", 0)", () -> call.ask(x, side, 0));
-            e.outOfBounds(name + "(" + side + ", -1)", () -> call.ask(x, side, -1));
+            e.outOfBounds(name + "(" + side + ", 0)", () -> call.ask(both, side, 0));
+            e.outOfBounds(name + "(" + side + ", 1)", () -> call.ask(both, side, 1));
+            e.outOfBounds(name + "(" + side + ", -1)", () -> call.ask(both, side, -1));
         }
     }
 

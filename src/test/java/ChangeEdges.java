@@ -26,6 +26,7 @@ final class ChangeEdges {
         t.changes();
         t.tenChanges();
         t.undo();
+        t.undoneData();
         t.snapshots();
         t.restoring();
         t.parseRestoresAll();
@@ -478,6 +479,40 @@ final class ChangeEdges {
         e.due("undo()", x.undo(), 0);
     }
 
+    /** All tags have four words, which are released and read anew from other addresses, then come back. */
+    private void undoneData() {
+        String text = "tags 8; buffer 0 1 8; latency 0 0; latency 1 0;";
+        for (int address = 0; address < 16; address++) {
+            text += "word 1 " + address + " " + (100 + address) + ";";
+        }
+        for (int tag = 0; tag < 8; tag++) {
+            BusBridge x = Check.bridge(text);
+            for (int i = 0; i < 8; i++) {
+                x.read(0, i, 4, false);
+            }
+            x.run(60);
+            x.saveSnapshot(1);
+            for (int times = 0; times < 2; times++) {
+                x.release(0, tag);
+                e.due("the tag again", x.read(0, 12, 4, false), tag);
+                x.run(9);
+                for (int index = 0; index < 4; index++) {
+                    e.due("data of the new read", x.data(0, tag, index), 112 + index);
+                }
+                if (times == 0) {
+                    x.undo();
+                    x.undo();
+                    x.undo();
+                } else {
+                    x.restoreSnapshot(1);
+                }
+                for (int index = 0; index < 4; index++) {
+                    e.due("data of the old read", x.data(0, tag, index), 100 + tag + index);
+                }
+            }
+        }
+    }
+
     private void snapshots() {
         e.says(33, "Saves a snapshot in a slot, in place of an earlier one.");
         e.says(33, "- `slot`: 0 or 1");
@@ -577,6 +612,27 @@ final class ChangeEdges {
         BusBridge fresh = Check.bridge(text);
         Check.parse(y, text);
         e.dueText("everything is as at first", Look.through(y), Look.through(fresh));
+        // The figures begin anew too, those that are not seen before the next transaction goes on as well.
+        for (int side = 0; side < 2; side++) {
+            BusBridge z = Check.bridge("credit " + (1 - side) + " 1 0;");
+            passAndWait(z, side);
+            e.due("passings", z.passings(side), 2);
+            e.dueDouble("averageWait", z.averageWait(side), 1.5f);
+            z.parse(0);
+            passAndWait(z, side);
+            BusBridge first = new BusBridge();
+            passAndWait(first, side);
+            e.due("passings", z.passings(side), 0);
+            e.dueText("all figures are as of a new object", Look.at(z), Look.at(first));
+        }
+    }
+
+    /** A read and two writes from a side, and two ticks. */
+    private static void passAndWait(BusBridge x, int side) {
+        x.read(side, 0, 1, false);
+        x.post(side, 0, 1, 1, false);
+        x.post(side, 0, 1, 1, false);
+        x.run(2);
     }
 
     private interface Refusals {

@@ -160,6 +160,18 @@ final class InputEdges {
         BusBridge z = Check.bridge(text);
         e.due("parse of the same text", Check.parse(z, text), 0);
         behavesLike(z, Check.bridge(text));
+        // Nor is anything left of texts before the last one, or of wrong ones.
+        for (int texts = 1; texts <= 4; texts++) {
+            BusBridge w = new BusBridge();
+            for (int i = 0; i < texts; i++) {
+                e.due("parse", Check.parse(w, text), 0);
+                e.due("parse of a wrong text", Check.parse(w, text + "latency 0 7+(((((8*9; latency 1 40;"), 1);
+            }
+            e.due("parse(0)", w.parse(0), 0);
+            behavesLike(w, new BusBridge());
+            e.due("parse", Check.parse(w, "latency 0 2*(1+2); latency 1 3;"), 0);
+            behavesLike(w, Check.bridge("latency 0 6; latency 1 3;"));
+        }
     }
 
     /** The same calls have the same consequences, so that buffers, credits, latencies and split are the same. */

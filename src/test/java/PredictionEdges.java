@@ -151,15 +151,22 @@ final class PredictionEdges {
             expect(y, 0, true);
             e.due("waiting", y.waiting(side), 1);
         }
-        // Something is held for ever and nothing waits but a completion.
-        BusBridge z = Check.bridge("buffer 1 3 1; credit 0 3 0; latency 1 0;");
-        z.configure(0, 0, 1, false);
-        z.configure(0, 0, 1, false);
-        expect(z, 2, true);
-        z.undo();
-        expect(z, 2, true);
-        z.undo();
-        expect(z, 0, false);
+        // As many wait from a side as its target holds for ever, and the other side has nothing left.
+        for (int side = 0; side < 2; side++) {
+            BusBridge z = Check.bridge("buffer " + side + " 3 1; credit " + (1 - side) + " 3 0; latency " + side + " 0;");
+            z.configure(1 - side, 0, 1, false);
+            z.configure(1 - side, 0, 1, false);
+            expect(z, 2, true);
+            z.run(9);
+            expect(z, 0, true);
+            e.due("waiting", z.waiting(side), 1);
+            e.due("held", z.held(side, 2), 1);
+            z.undo();
+            z.undo();
+            expect(z, 2, true);
+            z.undo();
+            expect(z, 0, false);
+        }
         // A safe bridge, both of whose sides ask a lot, is not stuck; one whose completions cannot pass is.
         e.due("isStuck() of a safe bridge", crossed("").isStuck(), false);
         BusBridge locked = crossed("table 3 1 0; table 3 2 0; buffer 0 3 1; buffer 1 3 1; credit 0 1 1; credit 1 1 1; split 1;");

@@ -95,9 +95,13 @@ final class SettingEdges {
     private void defaultSplitAndTags() {
         e.says(0, "split is 2 and tags is 4,");
         BusBridge x = Check.bridge("credit 0 3 0;");
-        x.read(0, 0, 4, false);
-        x.run(9);
-        e.due("completions of four words", x.waiting(1), 2);
+        for (int words = 1; words <= 4; words++) {
+            x.read(0, 0, words, false);
+            x.run(9);
+            e.due("completions of " + words + " words", x.waiting(1), (words + 1) / 2);
+            x.undo();
+            x.undo();
+        }
         for (int side = 0; side < 2; side++) {
             int s = side;
             e.due("tagState(side, 3)", x.tagState(s, 3), 0);

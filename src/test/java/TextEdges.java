@@ -209,6 +209,14 @@ final class TextEdges {
         for (String word : noStatements) {
             e.wrong(word + " 0 0 1;", 1, 0);
         }
+        for (String statement : STATEMENTS) {
+            String word = statement.substring(0, statement.indexOf(' '));
+            for (int i = 0; i < word.length(); i++) {
+                e.wrong(word.substring(0, i) + "x" + statement.substring(i + 1) + ";", 1, 0);
+                e.wrong(word.substring(0, i) + statement.substring(i + 1) + ";", 1, 0);
+                e.wrong(word.substring(0, i) + "x" + statement.substring(i) + ";", 1, 0);
+            }
+        }
     }
 
     private static String join(String[] tokens, int from, int to) {
@@ -282,6 +290,14 @@ final class TextEdges {
         sum("tags", 0);
         sum("split", 0);
         sum("latency", 0);
+        String[] names = {"kind", "address", "words", "tick"};
+        for (String name : names) {
+            for (int i = 0; i < name.length(); i++) {
+                sum(name.substring(0, i) + "x" + name.substring(i + 1), 0);
+                sum(name.substring(0, i) + name.substring(i + 1), 0);
+                sum(name.substring(0, i) + "x" + name.substring(i), 0);
+            }
+        }
     }
 
     /** A sum in a statement, which is right or has an error of the code 1 at a place within the sum. */
@@ -423,12 +439,15 @@ final class TextEdges {
         e.wrong("latency 0 (((((1)))));latency 1 ((((((1))))));", 4, 37);
         e.wrong("latency 0 (((((1+(2))))));", 4, 17);
         e.wrong("latency 0 1*(((((2/(", 4, 19);
-        // An error within a sum leaves no bracket open for the next text.
+        // An error within a sum, even many times, leaves no bracket open for the next text.
         BusBridge x = new BusBridge();
-        e.due("parse", Check.parse(x, "latency 0 (((((1"), 1);
-        e.due("parse", Check.parse(x, "latency 0 (((((1)))));"), 0);
-        e.due("parse", Check.parse(x, "latency 0 ((((((1))))));"), 4);
-        e.due("parse", Check.parse(x, "latency 0 (((((1)))));"), 0);
+        for (int i = 0; i < 20; i++) {
+            e.due("parse", Check.parse(x, "latency 1 (((((1"), 1);
+            e.due("parse", Check.parse(x, "latency 1 9-(8-(7-(6-(5-(4+(3"), 4);
+        }
+        e.due("parse", Check.parse(x, "latency 1 1+2*(1+2*(1+2*(1+2*(1+2*(1-1*1)))));"), 0);
+        x.post(0, 0, 1, 1, false);
+        e.due("the latency is 31", x.ticksToRest(), 1 + 31 + 1);
     }
 
     private void smallestPosition() {
