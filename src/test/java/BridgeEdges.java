@@ -412,6 +412,19 @@ final class BridgeEdges {
         e.due("waiting(1)", z.waiting(1), 1);
         e.due("tagAt(1, 0)", z.tagAt(1, 0), 0);
         e.due("held(1, 1)", z.held(1, 1), 2);
+        // All parts for which there is room come in one tick.
+        for (int split = 1; split <= 4; split++) {
+            for (int room = 1; room <= 5; room++) {
+                BusBridge v = Check.bridge("buffer 1 3 " + room + "; credit 0 3 0; split " + split + "; latency 1 0;");
+                v.read(0, 0, 4, false);
+                v.run(1);
+                e.due("waiting(1) in 1", v.waiting(1), 0);
+                v.run(1);
+                int parts = (4 + split - 1) / split;
+                e.due("waiting(1) in 2", v.waiting(1), Math.min(parts, room));
+                e.due("held(1, 1) in 2", v.held(1, 1), parts <= room ? 0 : 1);
+            }
+        }
         // A part that fills the last place is the last one: the read is done.
         BusBridge w = Check.bridge("buffer 1 3 2; credit 0 3 0; split 2; latency 1 0;");
         w.read(0, 0, 4, false);
