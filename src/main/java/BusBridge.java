@@ -21,6 +21,8 @@ public final class BusBridge {
     private static final int MOST_TICKS_OF_RUN = 300;
     private static final int LAST_TICK = 9999;
     private static final int LONGEST_PREDICTION = 500;
+    /** A tick that no run and no prediction reaches. */
+    private static final int NEVER = 1000000;
     private static final int CHANGES_KEPT = 10;
     private static final int SLOTS = 2;
 
@@ -1120,9 +1122,9 @@ public final class BusBridge {
             return work.size != workBefore || queue.size != queueBefore;
         }
 
-        /** The first later tick from which a transaction is worked on; a far one if there is none. */
+        /** The first later tick from which a transaction is worked on; NEVER if there is none. */
         int firstDueAfter(int now) {
-            int first = Integer.MAX_VALUE;
+            int first = NEVER;
             for (int position = 0; position < work.size; position++) {
                 int due = work.get(position, Line.TIME);
                 if (due > now) {

@@ -1,7 +1,10 @@
+import java.io.IOException;
 import java.lang.reflect.Constructor;
 import java.lang.reflect.Field;
 import java.lang.reflect.Method;
 import java.lang.reflect.Modifier;
+import java.nio.file.Files;
+import java.nio.file.Path;
 import java.util.ArrayList;
 import java.util.Collections;
 import java.util.List;
@@ -21,7 +24,7 @@ public final class FaceTest {
         "boolean saveSnapshot(int)", "int restoreSnapshot(int)",
     };
 
-    public static void main(String[] args) {
+    public static void main(String[] args) throws IOException {
         Check check = new Check("FaceTest");
         check.due("the class is public and final",
                 BusBridge.class.getModifiers() & (Modifier.PUBLIC | Modifier.FINAL),
@@ -33,7 +36,44 @@ public final class FaceTest {
         check.due("constructors", constructors.length, 1);
         check.due("constructor's parameters", constructors[0].getParameterCount(), 0);
         check.due("the constructor is public", Modifier.isPublic(constructors[0].getModifiers()), true);
+        Path document = Path.of("../shared/DOC.md");
+        if (Files.exists(document)) {
+            check.dueText("the face as the document writes it", sorted(writtenFace()), sorted(documentFace(document)));
+        }
         check.end();
+    }
+
+    /** The lines of the document's face, with types alone for parameters. */
+    private static List<String> documentFace(Path document) throws IOException {
+        List<String> face = new ArrayList<>();
+        for (String line : Files.readAllLines(document)) {
+            if (line.startsWith("    public ") && line.endsWith(";") && line.contains("(")) {
+                face.add(line.trim().replaceAll("(int|boolean) \\w+([,)])", "$1$2"));
+            }
+        }
+        return face;
+    }
+
+    /** The class's constructor and methods in the same form, with the exceptions that they declare. */
+    private static List<String> writtenFace() {
+        List<String> face = new ArrayList<>();
+        for (Constructor<?> constructor : BusBridge.class.getDeclaredConstructors()) {
+            face.add("public BusBridge()" + thrown(constructor.getExceptionTypes()) + ";");
+        }
+        for (Method method : BusBridge.class.getDeclaredMethods()) {
+            if (Modifier.isPublic(method.getModifiers())) {
+                face.add("public " + signature(method).replace(",", ", ") + thrown(method.getExceptionTypes()) + ";");
+            }
+        }
+        return face;
+    }
+
+    private static String thrown(Class<?>[] exceptions) {
+        StringBuilder text = new StringBuilder();
+        for (Class<?> exception : exceptions) {
+            text.append(text.length() == 0 ? " throws " : ", ").append(exception.getSimpleName());
+        }
+        return text.toString();
     }
 
     private static List<String> visibleMethods() {

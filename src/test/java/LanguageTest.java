@@ -16,10 +16,15 @@ public final class LanguageTest {
     };
     private static final Pattern METHOD = Pattern.compile("^ +(public |private )?(static )?[\\w\\[\\]]+ (\\w+)\\(([^)]*)\\).*");
 
+    /** A name of the library with what is used of it; names of the program's own classes are left out. */
+    private static final Pattern LIBRARY = Pattern.compile("(?<![\\w.])([A-Z][a-z]\\w*)\\.(\\w+)(\\(?)");
+    private static final Set<String> ALLOWED = Set.of("Arrays.fill(", "Arrays.copyOf(", "Arrays.copyOfRange(", "System.arraycopy(");
+
     public static void main(String[] args) throws IOException {
         List<String> lines = Files.readAllLines(Path.of("src/main/java/BusBridge.java"));
         forbiddenWords(lines);
         imports(lines);
+        library(lines);
         staticFields(lines);
         methods(lines);
         CHECK.end();
@@ -50,6 +55,31 @@ public final class LanguageTest {
                 CHECK.dueText("import", line, "import java.util.Arrays;");
             }
         }
+    }
+
+    /** Rule 4: of Integer, Long and Math the functions, not the constants; of the others what the rule names. */
+    private static void library(List<String> lines) {
+        Set<String> own = ownClasses(lines);
+        for (int i = 0; i < lines.size(); i++) {
+            Matcher matcher = LIBRARY.matcher(lines.get(i).startsWith("import") ? "" : code(lines.get(i)));
+            while (matcher.find()) {
+                boolean function = matcher.group(1).matches("Integer|Long|Math") && matcher.group(3).equals("(");
+                boolean allowed = own.contains(matcher.group(1)) || function || ALLOWED.contains(matcher.group());
+                CHECK.due("line " + (i + 1) + " may use " + matcher.group(), allowed, true);
+            }
+        }
+    }
+
+    private static Set<String> ownClasses(List<String> lines) {
+        Set<String> own = new HashSet<>();
+        for (String line : lines) {
+            Matcher matcher = Pattern.compile("^ *(?:public |private |static |final )*class (\\w+) .*").matcher(line);
+            if (matcher.matches()) {
+                own.add(matcher.group(1));
+            }
+        }
+        CHECK.due("at most some twelve classes", own.size() > 12, false);
+        return own;
     }
 
     private static void staticFields(List<String> lines) {
